@@ -6,7 +6,8 @@ public final class RockName {
     private static final int BAD_ROW = -10;
     private static final int BAD_STATUS = -1;
 
-    private static final int KINDS = 6;
+    /** PLAIN is 0. */
+    private static final int WORN = 1, FORGED = 2, SPIRAL = 3, FOUNDLING = 4, DEEP = 5, KINDS = 6;
     private static final int LETTERS = 4;
     private static final int MOST_LETTERS = 5;
     private static final int NAMES_TO_FOUR = 340;
@@ -22,10 +23,10 @@ public final class RockName {
     private static final int MOST_YEARS = 60;
     private static final int MOST_SEED = 999999;
 
-    /** What is kept of a stick, by its place in of(i, what). */
+    /** What is kept of a stick, by its number in of(i, what). */
     private static final int KIND = 0, NAME = 1, LENGTH = 2, WEAR = 3, FACTS = 4;
     /** What is kept of a note. */
-    private static final int STICK_NOTED = 0, INCH_NOTED = 1, WEAR_NOTED = 2, LETTERS_NOTED = 3;
+    private static final int NOTED_STICK = 0, NOTED_INCH = 1, NOTED_WEAR = 2, NOTED_LETTERS = 3;
 
     private final Town now = new Town();
     private final Town[] images = new Town[IMAGES];
@@ -286,9 +287,10 @@ public final class RockName {
         if (!areTwo(a, b)) {
             return refuseBad();
         }
+        int alike = pairsAlike(a, b);
         int resting = 0;
         for (int pair = 0; pair < 4; pair++) {
-            if (rests(a, b, pair)) {
+            if (rests(alike, pair)) {
                 resting |= 1 << pair;
             }
         }
@@ -442,7 +444,7 @@ public final class RockName {
         }
     }
 
-    /** The inches, as bits, that tell a stick from every other kind; NONE, if all its inches do not. */
+    /** The inches, as bits, that tell a stick from every other kind; NONE, if not even all do. */
     private int fewestBreaks(int i) {
         for (int kind = 0; kind < KINDS; kind++) {
             byKinds[kind] = inchesThatTell(i, kind);
@@ -513,24 +515,30 @@ public final class RockName {
         return many;
     }
 
-    /** Bit 0 of a pair: a shows inch 4; bit 1: b does. */
-    private boolean rests(int a, int b, int pair) {
-        return gainOfFirst(a, b, pair) >= gainOfFirst(a, b, pair ^ 1)
-            && gainOfSecond(a, b, pair) >= gainOfSecond(a, b, pair ^ 2);
+    /** The pairs, as bits, at which two are read alike; bit 0 of a pair: a shows inch 4, bit 1: b. */
+    private int pairsAlike(int a, int b) {
+        int bits = 0;
+        for (int pair = 0; pair < 4; pair++) {
+            int inchOfFirst = (pair & 1) * 4;
+            int inchOfSecond = (pair >> 1) * 4;
+            if (now.sticks.seenAt(a, inchOfFirst) == now.sticks.seenAt(b, inchOfSecond)) {
+                bits |= 1 << pair;
+            }
+        }
+        return bits;
     }
 
-    private int gainOfFirst(int a, int b, int pair) {
-        return (readAlike(a, b, pair) ? 2 : 0) - (pair & 1);
+    private static boolean rests(int alike, int pair) {
+        return gainOfFirst(alike, pair) >= gainOfFirst(alike, pair ^ 1)
+            && gainOfSecond(alike, pair) >= gainOfSecond(alike, pair ^ 2);
     }
 
-    private int gainOfSecond(int a, int b, int pair) {
-        return (readAlike(a, b, pair) ? 0 : 2) - (pair >> 1 & 1);
+    private static int gainOfFirst(int alike, int pair) {
+        return ((alike & 1 << pair) != 0 ? 2 : 0) - (pair & 1);
     }
 
-    private boolean readAlike(int a, int b, int pair) {
-        int inchOfFirst = (pair & 1) * 4;
-        int inchOfSecond = (pair >> 1 & 1) * 4;
-        return now.sticks.seenAt(a, inchOfFirst) == now.sticks.seenAt(b, inchOfSecond);
+    private static int gainOfSecond(int alike, int pair) {
+        return ((alike & 1 << pair) != 0 ? 0 : 2) - (pair >> 1);
     }
 
     /** The years wear a copy down, so that nothing of the town is changed. */
@@ -544,7 +552,7 @@ public final class RockName {
         return Reading.lettersIn(Reading.byKind(kind, name, x, wears[i]));
     }
 
-    /** As what a name is read: texts of letters 1 to 4 are numbers of so many figures, none is 0. */
+    /** As what a name is read: letters are the figures of a number, no letters are 0. */
     private static final class Reading {
         static boolean isName(int n) {
             return lettersIn(n) >= 1 && lettersIn(n) <= MOST_LETTERS && hasLettersAlone(n);
@@ -583,38 +591,35 @@ public final class RockName {
         }
 
         static int byKind(int kind, int name, int x, int wear) {
+            int plain = wear >= 5 ? withoutDoubles(name) : name;
             switch (kind) {
-                case 1:
-                    return worn(name, wear);
-                case 2:
-                    return x == 0 ? turnedRound(plain(name, wear)) : plain(name, wear);
-                case 3:
-                    return spiral(name, x, wear);
-                case 4:
-                    return x % 2 == 1 ? 0 : worn(name, wear);
-                case 5:
-                    return x >= 4 ? raised(spiral(name, x, wear)) : spiral(name, x, wear);
+                case WORN:
+                    return cut(plain, wear / 3);
+                case FORGED:
+                    return x == 0 ? turnedRound(plain) : plain;
+                case SPIRAL:
+                    return turned(plain, x);
+                case FOUNDLING:
+                    return x % 2 == 1 ? 0 : cut(plain, wear / 3);
+                case DEEP:
+                    return x >= 4 ? raised(turned(plain, x)) : turned(plain, x);
                 default:
-                    return plain(name, wear);
+                    return plain;
             }
         }
 
-        static int plain(int name, int wear) {
-            return wear >= 5 ? withoutDoubles(name) : name;
-        }
-
-        static int worn(int name, int wear) {
-            int left = plain(name, wear);
-            for (int gone = wear / 3; gone > 0; gone--) {
+        static int cut(int n, int many) {
+            int left = n;
+            for (int k = 0; k < many; k++) {
                 left /= 10;
             }
             return left;
         }
 
-        static int spiral(int name, int x, int wear) {
-            int turned = plain(name, wear);
-            int first = placeOfFirst(turned);
-            for (int turn = 0; turn < x && first > 0; turn++) {
+        static int turned(int n, int many) {
+            int turned = n;
+            int first = placeOfFirst(n);
+            for (int k = 0; k < many && first > 0; k++) {
                 turned = turned % first * 10 + turned / first;
             }
             return turned;
@@ -659,7 +664,7 @@ public final class RockName {
             return place;
         }
 
-        /** Brought to five figures, so that first letters stand in one place; 0 where there is none. */
+        /** Brought to five figures, so that first stands with first; 0 where there is no letter. */
         static int padded(int n) {
             int wide = n;
             for (int many = lettersIn(n); many < MOST_LETTERS; many++) {
@@ -715,7 +720,7 @@ public final class RockName {
         }
 
         boolean has(int i) {
-            return isBelow(i, size);
+            return i >= 0 && i < size;
         }
 
         void empty() {
@@ -778,7 +783,7 @@ public final class RockName {
         }
 
         int seenAt(int i, int x) {
-            return seenAsKind(i, fact(i, KIND), x);
+            return Reading.byKind(fact(i, KIND), fact(i, NAME), x, fact(i, WEAR));
         }
 
         /** Those, as bits, that are read as y at an inch. */
@@ -834,10 +839,10 @@ public final class RockName {
         void add(int stick, int x, int wear, int y) {
             if (!isFull()) {
                 int place = size * FACTS;
-                facts[place + STICK_NOTED] = stick;
-                facts[place + INCH_NOTED] = x;
-                facts[place + WEAR_NOTED] = wear;
-                facts[place + LETTERS_NOTED] = y;
+                facts[place + NOTED_STICK] = stick;
+                facts[place + NOTED_INCH] = x;
+                facts[place + NOTED_WEAR] = wear;
+                facts[place + NOTED_LETTERS] = y;
                 size++;
             }
         }
@@ -845,7 +850,7 @@ public final class RockName {
         /** Whether all notes of a stick are so, were it of this kind and name. */
         boolean fit(int stick, int kind, int name) {
             for (int k = 0; k < size; k++) {
-                if (fact(k, STICK_NOTED) == stick && !fits(k, kind, name)) {
+                if (fact(k, NOTED_STICK) == stick && !fits(k, kind, name)) {
                     return false;
                 }
             }
@@ -853,8 +858,8 @@ public final class RockName {
         }
 
         private boolean fits(int k, int kind, int name) {
-            int seen = Reading.byKind(kind, name, fact(k, INCH_NOTED), fact(k, WEAR_NOTED));
-            return seen == fact(k, LETTERS_NOTED);
+            int seen = Reading.byKind(kind, name, fact(k, NOTED_INCH), fact(k, NOTED_WEAR));
+            return seen == fact(k, NOTED_LETTERS);
         }
     }
 
@@ -923,17 +928,21 @@ public final class RockName {
         }
     }
 
-    /** The bytes by which a town is told, and their tokens: where one begins, a fault is draft. */
+    /** The bytes by which a town is told, their tokens, and the sticks that these tell. */
     private static final class TownText {
-        private static final int END = 0, STRANGE = 1, STOP = 2, NUMBER = 3;
-        private static final int TOWN_WORD = 4, STICK_WORD = 5, SUCK_WORD = 6;
+        private static final int BLANK = 0, WORD = 1, FIGURES = 2, STOP = 3, STRANGE = 4;
+        private static final int FAULT = -10;
 
         final Sticks draft = new Sticks();
         private final byte[] bytes = new byte[MOST_BYTES];
         private int size = 0;
-        private int place = 0;
-        private int start = 0;
-        private int token = END;
+        private final int[] sorts = new int[MOST_BYTES];
+        private final int[] starts = new int[MOST_BYTES];
+        private final int[] lengths = new int[MOST_BYTES];
+        private int tokens = 0;
+        /** The first token that does not stand yet. */
+        private int cursor = 0;
+        /** The last number that was taken. */
         private int value = 0;
 
         int size() {
@@ -951,37 +960,71 @@ public final class RockName {
             }
         }
 
-        /** NONE behind the end, which is no byte of a text. */
-        private int byteAt(int where) {
-            return isBelow(where, size) ? bytes[where] : NONE;
-        }
-
-        /** How many items, or -10 less the fault. */
+        /** Makes the draft: how many items, or -10 less the fault. */
         int tell() {
             draft.empty();
-            place = 0;
-            takeToken();
-            if (token != TOWN_WORD || !takesStop()) {
-                return -10 - start;
+            split();
+            cursor = 0;
+            boolean stands = takesWord("town") && takesStop();
+            int items = 1;
+            while (stands && cursor < tokens && items < MOST_BYTES) {
+                stands = takesItem();
+                items++;
             }
-            // An item has a byte at least, so there are never more of them than bytes.
-            for (int items = 1; items <= MOST_BYTES; items++) {
-                takeToken();
-                if (token == END) {
-                    return items;
+            return stands ? items : FAULT - startOf(cursor);
+        }
+
+        /** An end that comes too early is told by the text's length. */
+        private int startOf(int k) {
+            return isBelow(k, tokens) ? starts[k] : size;
+        }
+
+        private int byteAt(int place) {
+            return isBelow(place, size) ? bytes[place] : NONE;
+        }
+
+        private void split() {
+            tokens = 0;
+            int ahead = BLANK;
+            for (int place = 0; place < size; place++) {
+                int sort = sortOf(bytes[place]);
+                boolean goesOn = sort == ahead && (sort == WORD || sort == FIGURES);
+                if (goesOn && tokens > 0) {
+                    lengths[tokens - 1]++;
+                } else if (sort != BLANK) {
+                    begin(sort, place);
                 }
-                if (!takesItem()) {
-                    return -10 - start;
-                }
+                ahead = sort;
             }
-            return -10 - start;
+        }
+
+        private void begin(int sort, int place) {
+            if (tokens < MOST_BYTES) {
+                sorts[tokens] = sort;
+                starts[tokens] = place;
+                lengths[tokens] = 1;
+                tokens++;
+            }
+        }
+
+        private static int sortOf(int c) {
+            if (isWithin(c, 'a', 'z')) {
+                return WORD;
+            }
+            if (isWithin(c, '0', '9')) {
+                return FIGURES;
+            }
+            if (c == ';') {
+                return STOP;
+            }
+            return c == ' ' ? BLANK : STRANGE;
         }
 
         private boolean takesItem() {
-            if (token == STICK_WORD && !draft.isFull()) {
+            if (!draft.isFull() && takesWord("stick")) {
                 return takesStick();
             }
-            return token == SUCK_WORD && takesSuck();
+            return takesWord("suck") && takesSuck();
         }
 
         private boolean takesStick() {
@@ -993,16 +1036,13 @@ public final class RockName {
                 return false;
             }
             int inches = value;
-            if (!takesNumber(1, LETTERS)) {
-                return false;
-            }
-            int name = value;
-            takeToken();
-            for (int many = 1; many < MOST_LETTERS && isNumber(1, LETTERS); many++) {
+            int name = 0;
+            int many = 0;
+            while (many < MOST_LETTERS && takesNumber(1, LETTERS)) {
                 name = name * 10 + value;
-                takeToken();
+                many++;
             }
-            if (token != STOP) {
+            if (many == 0 || !takesStop()) {
                 return false;
             }
             draft.add(kind, name, inches);
@@ -1014,91 +1054,48 @@ public final class RockName {
                 return false;
             }
             int i = value;
-            if (!takesNumber(1, 9)) {
+            if (!takesNumber(1, 9) || !takesStop()) {
                 return false;
             }
-            int n = value;
-            if (!takesStop()) {
+            draft.wearDown(i, value);
+            return true;
+        }
+
+        private boolean takesWord(String word) {
+            if (cursor >= tokens || lengths[cursor] != word.length()) {
                 return false;
             }
-            draft.wearDown(i, n);
+            for (int k = 0; k < word.length(); k++) {
+                if (byteAt(starts[cursor] + k) != word.charAt(k)) {
+                    return false;
+                }
+            }
+            cursor++;
             return true;
         }
 
         private boolean takesStop() {
-            takeToken();
-            return token == STOP;
-        }
-
-        private boolean takesNumber(int least, int most) {
-            takeToken();
-            return isNumber(least, most);
-        }
-
-        private boolean isNumber(int least, int most) {
-            return token == NUMBER && isWithin(value, least, most);
-        }
-
-        private void takeToken() {
-            while (place < size && byteAt(place) == ' ') {
-                place++;
-            }
-            start = place;
-            int c = byteAt(place);
-            if (c == NONE) {
-                token = END;
-            } else if (isSmallLetter(c)) {
-                takeWord();
-            } else if (isFigure(c)) {
-                takeFigures();
-            } else {
-                token = c == ';' ? STOP : STRANGE;
-                place++;
-            }
-        }
-
-        private void takeWord() {
-            while (place < size && isSmallLetter(byteAt(place))) {
-                place++;
-            }
-            if (isWord("town")) {
-                token = TOWN_WORD;
-            } else if (isWord("stick")) {
-                token = STICK_WORD;
-            } else {
-                token = isWord("suck") ? SUCK_WORD : STRANGE;
-            }
-        }
-
-        private void takeFigures() {
-            value = 0;
-            while (place < size && isFigure(byteAt(place))) {
-                if (place < start + 2) {
-                    value = value * 10 + byteAt(place) - '0';
-                }
-                place++;
-            }
-            token = place - start <= 2 ? NUMBER : STRANGE;
-        }
-
-        private boolean isWord(String word) {
-            if (place - start != word.length()) {
+            if (cursor >= tokens || sorts[cursor] != STOP) {
                 return false;
             }
-            for (int k = 0; k < word.length(); k++) {
-                if (byteAt(start + k) != word.charAt(k)) {
-                    return false;
-                }
-            }
+            cursor++;
             return true;
         }
 
-        private static boolean isSmallLetter(int c) {
-            return isWithin(c, 'a', 'z');
-        }
-
-        private static boolean isFigure(int c) {
-            return isWithin(c, '0', '9');
+        private boolean takesNumber(int least, int most) {
+            if (cursor >= tokens || sorts[cursor] != FIGURES || lengths[cursor] > 2) {
+                return false;
+            }
+            int number = byteAt(starts[cursor]) - '0';
+            if (lengths[cursor] == 2) {
+                number = number * 10 + byteAt(starts[cursor] + 1) - '0';
+            }
+            if (!isWithin(number, least, most)) {
+                return false;
+            }
+            value = number;
+            cursor++;
+            return true;
         }
     }
 
