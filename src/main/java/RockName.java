@@ -13,8 +13,8 @@ public final class RockName {
     private static final int NAMES_TO_FOUR = 340;
     private static final int INCHES = 9;
     private static final int WEARS = 10;
-    private static final int MOST_STICKS = 6;
-    private static final int MOST_NOTES = 6;
+    /** So many sticks there may be, and so many notes. */
+    private static final int MOST_ROWS = 6;
     private static final int MOST_UNDONE = 6;
     private static final int MOST_BYTES = 150;
     private static final int IMAGES = 2;
@@ -33,7 +33,7 @@ public final class RockName {
     private final TownText text = new TownText();
     private final RowSearch rows = new RowSearch();
     private final int[] refused = new int[REASONS];
-    private final int[] wears = new int[MOST_STICKS];
+    private final int[] wears = new int[MOST_ROWS];
     private final int[] byKinds = new int[KINDS];
     private long above = 0;
     private long below = 1;
@@ -57,7 +57,7 @@ public final class RockName {
             return refuseFull();
         }
         now.past.empty();
-        return now.sticks.add(kind, name, inches);
+        return now.sticks.add(kind, name, inches, 0);
     }
 
     public int type(int c) {
@@ -319,7 +319,7 @@ public final class RockName {
         if (!isWithin(seed, 0, MOST_SEED) || !isWithin(n, 0, MOST_YEARS)) {
             return refuseBad();
         }
-        for (int i = 0; i < MOST_STICKS; i++) {
+        for (int i = 0; i < MOST_ROWS; i++) {
             wears[i] = now.sticks.fact(i, WEAR);
         }
         long state = seed;
@@ -706,55 +706,59 @@ public final class RockName {
         }
     }
 
-    /** The sticks that there are, as they came. */
-    private static final class Sticks {
-        private final int[] facts = new int[MOST_STICKS * FACTS];
-        private int size = 0;
+    /** Up to six things of four facts each, as they came. */
+    private abstract static class Rows {
+        final int[] facts = new int[MOST_ROWS * FACTS];
+        int size = 0;
 
-        int size() {
+        final int size() {
             return size;
         }
 
-        boolean isFull() {
-            return size >= MOST_STICKS;
+        final boolean isFull() {
+            return size >= MOST_ROWS;
         }
 
-        boolean has(int i) {
+        final boolean has(int i) {
             return i >= 0 && i < size;
         }
 
-        void empty() {
+        final void empty() {
             size = 0;
         }
 
-        void copyFrom(Sticks other) {
+        final void copyFrom(Rows other) {
             System.arraycopy(other.facts, 0, facts, 0, facts.length);
             size = other.size;
         }
 
-        int fact(int i, int what) {
+        final int fact(int i, int what) {
             return has(i) && isBelow(what, FACTS) ? facts[i * FACTS + what] : 0;
         }
 
-        void put(int i, int what, int value) {
+        final void put(int i, int what, int value) {
             if (has(i) && isBelow(what, FACTS)) {
                 facts[i * FACTS + what] = value;
             }
         }
 
-        int add(int kind, int name, int inches) {
+        /** The facts in their order; the number of the row. */
+        final int add(int first, int second, int third, int fourth) {
             if (isFull()) {
                 return FULL;
             }
             int i = size;
             size++;
-            put(i, KIND, kind);
-            put(i, NAME, name);
-            put(i, LENGTH, inches);
-            put(i, WEAR, 0);
+            put(i, 0, first);
+            put(i, 1, second);
+            put(i, 2, third);
+            put(i, 3, fourth);
             return i;
         }
+    }
 
+    /** The sticks that there are. */
+    private static final class Sticks extends Rows {
         void wearDown(int i, int n) {
             put(i, WEAR, Math.min(fact(i, WEAR) + n, WEARS - 1));
         }
@@ -810,43 +814,8 @@ public final class RockName {
         }
     }
 
-    /** What was read of sticks, as it came. */
-    private static final class Notes {
-        private final int[] facts = new int[MOST_NOTES * FACTS];
-        private int size = 0;
-
-        int size() {
-            return size;
-        }
-
-        boolean isFull() {
-            return size >= MOST_NOTES;
-        }
-
-        void empty() {
-            size = 0;
-        }
-
-        void copyFrom(Notes other) {
-            System.arraycopy(other.facts, 0, facts, 0, facts.length);
-            size = other.size;
-        }
-
-        int fact(int k, int what) {
-            return isBelow(k, size) && isBelow(what, FACTS) ? facts[k * FACTS + what] : 0;
-        }
-
-        void add(int stick, int x, int wear, int y) {
-            if (!isFull()) {
-                int place = size * FACTS;
-                facts[place + NOTED_STICK] = stick;
-                facts[place + NOTED_INCH] = x;
-                facts[place + NOTED_WEAR] = wear;
-                facts[place + NOTED_LETTERS] = y;
-                size++;
-            }
-        }
-
+    /** What was read of sticks. */
+    private static final class Notes extends Rows {
         /** Whether all notes of a stick are so, were it of this kind and name. */
         boolean fit(int stick, int kind, int name) {
             for (int k = 0; k < size; k++) {
@@ -865,7 +834,7 @@ public final class RockName {
 
     /** The sticks as they were ahead of each change that may be undone, the last one last. */
     private static final class Past {
-        private static final int ROW = MOST_STICKS * FACTS;
+        private static final int ROW = MOST_ROWS * FACTS;
 
         private final int[] facts = new int[MOST_UNDONE * ROW];
         private final int[] sizes = new int[MOST_UNDONE];
@@ -1045,7 +1014,7 @@ public final class RockName {
             if (many == 0 || !takesStop()) {
                 return false;
             }
-            draft.add(kind, name, inches);
+            draft.add(kind, name, inches, 0);
             return true;
         }
 
@@ -1103,9 +1072,9 @@ public final class RockName {
     private static final class RowSearch {
         private static final int MORE_THAN_ANY = 1000;
 
-        private final int[] unlike = new int[MOST_STICKS * MOST_STICKS];
-        private final int[] tried = new int[MOST_STICKS];
-        private final int[] best = new int[MOST_STICKS];
+        private final int[] unlike = new int[MOST_ROWS * MOST_ROWS];
+        private final int[] tried = new int[MOST_ROWS];
+        private final int[] best = new int[MOST_ROWS];
         private int size = 0;
         int fewest = 0;
 
@@ -1114,7 +1083,7 @@ public final class RockName {
             for (int i = 0; i < size; i++) {
                 for (int k = 0; k < size; k++) {
                     int places = Reading.unlikePlaces(sticks.seenAt(i, 0), sticks.seenAt(k, 0));
-                    unlike[i * MOST_STICKS + k] = places;
+                    unlike[i * MOST_ROWS + k] = places;
                 }
             }
             fewest = MORE_THAN_ANY;
@@ -1129,7 +1098,7 @@ public final class RockName {
             if (sum >= fewest) {
                 return;
             }
-            if (depth >= size || depth >= MOST_STICKS) {
+            if (depth >= size || depth >= MOST_ROWS) {
                 fewest = sum;
                 System.arraycopy(tried, 0, best, 0, tried.length);
                 return;
@@ -1143,7 +1112,7 @@ public final class RockName {
         }
 
         private int unlikeAhead(int depth, int i) {
-            return depth > 0 ? unlike[tried[depth - 1] * MOST_STICKS + i] : 0;
+            return depth > 0 ? unlike[tried[depth - 1] * MOST_ROWS + i] : 0;
         }
     }
 }

@@ -75,6 +75,11 @@ public final class PromisesTest {
         due("2: sticks of the image", r.count(0), 2);
         due("2: town() again", r.town(), 2);
         due("2: town() of none", r.town(), 0);
+        r.stick(0, 1, 1);
+        r.suck(0, 7);
+        r.town();
+        r.stick(0, 1, 1);
+        due("2: a new stick has no wear", r.of(0, 3), 0);
     }
 
     private static void stick() {
@@ -136,7 +141,8 @@ public final class PromisesTest {
             "town;stick 5 9 1 suck 0 1;", "town;stick 5 9 1.", "town;suck", "town;suck 0 1;",
             "town;stick 0 1 1;suck 1 1;", "town;stick 0 1 1;suck 0 0;", "town;stick 0 1 1;suck 0 10;",
             "town;stick 0 1 1;suck 0 1 1;", "town;stick 0 1 1;suck 0;", "town;\tstick 0 1 1;",
-            "town;\u007f", "town;town", "town;suck 000 1;", "town;stick 0 1 1;suck 0 1"};
+            "town;\u007f", "town;town", "town;suck 000 1;", "town;stick 0 1 1;suck 0 1", "fown;", "town;duck 0 1;",
+            "town;stick 0 1 1;suck 0 a;", "town;stick / 1 1;", "town;stick 0 : 1;"};
         int[] faults = {0, 3, 4, 5, 0, 0, 0, 4, 4, 0,
             0, 0, 0, 5, 5, 5, 5, 5,
             5, 10, 10, 11, 13,
@@ -146,7 +152,8 @@ public final class PromisesTest {
             17, 16, 9, 10,
             22, 24, 24,
             26, 23, 5,
-            5, 5, 10, 25};
+            5, 5, 10, 25, 0, 5,
+            24, 11, 13};
         for (int k = 0; k < texts.length; k++) {
             RockName r = fullTown();
             tell(r, texts[k]);
@@ -306,6 +313,22 @@ public final class PromisesTest {
         r.suck(1, 1);
         r.stick(9, 1, 1);
         due("10: a refused stick leaves it", r.undo(), 3);
+        RockName laid = new RockName();
+        for (int k = 0; k < 6; k++) {
+            laid.stick(0, k % 4 + 1, 2);
+        }
+        laid.suck(0, 1);
+        for (int k = 0; k < 5; k++) {
+            laid.lays(1, 0);
+        }
+        laid.suck(0, 2);
+        int[] sizes = {1, 2, 3, 4, 5, 6};
+        for (int size : sizes) {
+            due("10: how many there are then", laid.undo(), size);
+        }
+        due("10: the first was one too many", laid.undo(), NO);
+        due("10: as it was sucked first", laid.of(0, 3), 1);
+        due("10: the last of six", laid.of(5, 1), 2);
     }
 
     private static void of() {
@@ -373,6 +396,8 @@ public final class PromisesTest {
         due("13: no sticks", r.told(0), 0);
         due("13: no sticks", r.told(1), 0);
         r.stick(3, 12, 1);
+        due("13: one stick", r.told(0), 0);
+        due("13: one stick", r.told(1), 1);
         r.stick(0, 12, 1);
         r.stick(0, 21, 1);
         due("13: the least inch of like ones", r.told(0), 0);
@@ -393,6 +418,10 @@ public final class PromisesTest {
         r.stick(0, 112, 1);
         r.stick(3, 12, 1);
         due("14: worn", r.sucks(0, 3), 3);
+        r.suck(0, 1);
+        due("14: worn by 1", r.sucks(0, 3), 2);
+        r.suck(0, 1);
+        due("14: worn by 2", r.sucks(0, 3), 1);
         due("14: foundling at an even inch", r.sucks(1, 0), 3);
         due("14: foundling at an odd inch", r.sucks(1, 1), NONE);
         due("14: plain with a double", r.sucks(2, 0), 5);
@@ -438,6 +467,11 @@ public final class PromisesTest {
         r.stick(4, 1, 9);
         r.suck(5, 3);
         due("15: foundling as worn", r.breaks(5, 1), NONE);
+        // FORGED 121 is PLAIN from either end.
+        RockName f = new RockName();
+        f.stick(2, 121, 9);
+        f.suck(0, 3);
+        due("15: forged as plain", f.breaks(0, 0), NONE);
         due("15: what 2", r.breaks(0, 2), BAD);
         due("15: what -1", r.breaks(0, -1), BAD);
         due("15: stick 6", r.breaks(6, 0), BAD);
@@ -665,6 +699,19 @@ public final class PromisesTest {
         due("24: none rests", r.court(2, 1), 0);
         due("24: alike, if b shows inch 4", r.court(0, 2), 1);
         dueStatus("24:", r, 3, 0, 0);
+        // SPIRAL 123 is read 231 at inch 4, 312 at inch 5.
+        RockName s = new RockName();
+        s.stick(3, 123, 1);
+        s.stick(0, 231, 1);
+        due("24: inch 4 of a", s.court(0, 1), 2);
+        RockName t = new RockName();
+        t.stick(0, 123, 1);
+        t.stick(3, 123, 1);
+        due("24: inch 4 of b", t.court(0, 1), 4);
+        RockName u = new RockName();
+        u.stick(0, 12341, 1);
+        u.stick(5, 12341, 1);
+        due("24: b is no more as a", u.court(0, 1), 4);
     }
 
     private static void rain() {
@@ -709,6 +756,19 @@ public final class PromisesTest {
         due("26: a foundling at inch 5", r.years(0, 4), 4);
         r.suck(0, 9);
         due("26: 9 at most", r.years(0, 5), 0);
+        due("26: no years", r.years(999999, 0), 0);
+        RockName six = new RockName();
+        int[][] sticks = {{5, 44444, 9}, {1, 12344, 9}, {3, 1234, 8}, {4, 11111, 9}, {2, 4321, 1}, {0, 1, 2}};
+        for (int[] k : sticks) {
+            six.stick(k[0], k[1], k[2]);
+        }
+        due("26: six, 9 years", six.years(7, 9), 29);
+        due("26: six, 60 years", six.years(999999, 60), 161);
+        // Sucked three times it would have 1 letter of 5 by WEAR 12, but by WEAR 9 it has 2.
+        RockName worn = new RockName();
+        worn.stick(1, 12341, 1);
+        worn.suck(0, 9);
+        due("26: wear stays at 9", worn.years(0, 5), 6);
     }
 
     private static void part() {
