@@ -171,6 +171,10 @@ public final class PromisesTest {
         due("6: a 7th", tell(r, seven + "stick 0 1 1;"), -10 - 77);
         due("6: a 7th at its word", tell(r, seven + "stick 9"), -10 - 77);
         due("6: a suck behind six", tell(r, seven + "suck 5 1;"), 8);
+        due("6: 150 of ;", tell(r, ";".repeat(150)), -10);
+        due("6: 150 of blanks", tell(r, " ".repeat(150)), -160);
+        due("6: 150 figures", tell(r, "town;" + "1".repeat(145)), -15);
+        due("6: blanks to the end", tell(r, "town;" + " ".repeat(145)), 1);
     }
 
     private static void read() {
@@ -198,6 +202,10 @@ public final class PromisesTest {
         due("6: takes the place", r.count(0), 2);
         due("6: no blanks but where they part", tell(r, "town;stick3 2 1 2;suck0 1;"), 3);
         due("6: its name", r.of(0, 1), 12);
+        due("6: no ; of an earlier text", tell(r, "town"), -14);
+        due("6: no word of an earlier text", tell(r, "town;stick 3 2"), -24);
+        due("6: no number of an earlier text", tell(r, "town;stick"), -20);
+        due("6: what was told stays", r.of(0, 1), 12);
     }
 
     private static void suck() {
@@ -710,7 +718,7 @@ public final class PromisesTest {
         due("24: inch 4 of b", t.court(0, 1), 4);
         RockName u = new RockName();
         u.stick(0, 12341, 1);
-        u.stick(5, 12341, 1);
+        u.stick(3, 12341, 1);
         due("24: b is no more as a", u.court(0, 1), 4);
     }
 
@@ -769,6 +777,7 @@ public final class PromisesTest {
         worn.stick(1, 12341, 1);
         worn.suck(0, 9);
         due("26: wear stays at 9", worn.years(0, 5), 6);
+        due("26: wear stays at 9 for 6 times", worn.years(0, 60), 12);
     }
 
     private static void part() {
