@@ -321,6 +321,13 @@ public final class EdgesTest {
         }
         C.due("9: none behind the last", r.of(5, 0), BAD);
         C.due("9: six may be undone at most", r.count(4), 6);
+        C.due("9: undone, how many there are then", r.undo(), 6);
+        for (int i = 0; i < 6; i++) {
+            C.due("9: undone, name " + i, r.of(i, 1), Checks.FULL_NAMES[i]);
+            C.due("9: undone, wear " + i, r.of(i, 3), Checks.FULL_WEARS[i]);
+        }
+        C.due("9: one of two", Checks.small().lays(1, 0), 0);
+        C.taken("9: it may be undone", Checks::small, x -> x.lays(1, 0) + x.count(4), 3);
         RockName ended = Checks.full();
         for (int left = 5; left >= 1; left--) {
             C.due("9: down to one", ended.lays(left, 0) * 10 + ended.count(0), left);
@@ -354,6 +361,7 @@ public final class EdgesTest {
             C.due("10: wear left of " + changes, r.of(0, 3), Math.max(0, changes - 6));
         }
         behindAStick();
+        manyLaid();
         RockName noted = of(0, 12, 9, 0, 0, 3, 9, 0);
         noted.note(1, 0, 0, 3);
         noted.lays(0, 1);
@@ -391,6 +399,24 @@ public final class EdgesTest {
         RockName full = Checks.full();
         full.stick(0, 1, 1);
         C.due("10: all may be behind a stick for which there is no room", full.count(4), 6);
+    }
+
+    /** Seven changes, after each of which there is another number of sticks but for the first and the last. */
+    private static void manyLaid() {
+        RockName r = plain(6);
+        r.suck(0, 4);
+        for (int k = 0; k < 5; k++) {
+            r.lays(0, 1);
+        }
+        r.suck(0, 5);
+        C.due("10: laid together", r.of(0, 1) * 100 + r.of(0, 3) * 10 + r.count(0), 491);
+        for (int there = 1; there <= 6; there++) {
+            C.due("10: there are then", r.undo(), there);
+            C.due("10: inches of all then", r.count(1), 9 * there);
+            C.due("10: wear then", r.of(0, 3), 4);
+        }
+        C.due("10: the first of seven is not undone", r.undo(), NO);
+        C.due("10: the last stick of six", r.of(5, 1), 2);
     }
 
     private static void of() {
@@ -462,6 +488,11 @@ public final class EdgesTest {
         Supplier<RockName> last = town(4, 22334, 1, 0, 4, 23342, 1, 0, 3, 42233, 1, 0, 3, 23342, 1, 0);
         C.silent("13: the last inch", last, r -> r.told(0), 8);
         C.silent("13: the last inch, how many", last, r -> r.told(1), 4);
+        // SPIRAL 12344 is as one of the PLAIN ones but at inch 4, where it is as the FOUNDLING, and at inch 9.
+        Supplier<RockName> beyond = town(3, 12344, 9, 0, 0, 12344, 9, 0, 0, 23441, 9, 0, 0, 34412, 9, 0, 0, 44123, 9, 0,
+            4, 41234, 9, 0);
+        C.silent("13: no inch beyond 8", beyond, r -> r.told(0), 0);
+        C.silent("13: no inch beyond 8, how many", beyond, r -> r.told(1), 5);
         C.silent("13: inch 4 for the first time", town(3, 322, 1, 0, 5, 322, 1, 0), r -> r.told(0), 4);
         C.silent("13: nothing read is a reading, too", town(0, 12, 1, 0, 4, 12, 1, 0), r -> r.told(0), 1);
     }
@@ -552,7 +583,7 @@ public final class EdgesTest {
         C.silent("17: all alike, the first such row", alike, r -> r.row(3), 3);
         Supplier<RockName> far = town(0, 11111, 1, 0, 0, 22222, 1, 0, 0, 33333, 1, 0, 0, 44444, 1, 0, 0, 12121, 1, 0,
             0, 34343, 1, 0);
-        // 12121 lies by 2 from 11111, by 3 from 22222; 34343 by 2 from 33333, by 3 from 44444; 5 between the two halves.
+        // 12121 lies by 2 from 11111, by 3 from 22222; 34343 by 2 from 33333, by 3 from 44444; all else by 5.
         C.silent("17: far apart, how many", far, r -> r.row(NONE), 15);
         int[] apart = {0, 4, 1, 2, 5, 3};
         for (int i = 0; i < 6; i++) {
@@ -644,6 +675,13 @@ public final class EdgesTest {
         C.silent("21: no notes", town(0, 1, 1, 0), r -> r.next(0), 5);
         // PLAIN, SPIRAL, DEEP of 1432: at inch 4 the first two, at inch 5 the first and the last are 1432.
         C.silent("21: inch 6", () -> noted(0, 1432, 0, 3, 1432), r -> r.next(0), 6);
+        // All but FORGED, with WEAR 3: WORN, FOUNDLING are alike at even inches, SPIRAL, DEEP ahead of inch 4, PLAIN,
+        // DEEP at inch 5.
+        C.silent("21: inch 7", () -> {
+            RockName r = of(0, 1432, 1, 3);
+            r.note(0, 0, 0, 1432);
+            return r;
+        }, r -> r.next(0), 7);
         // SPIRAL, DEEP: alike ahead of inch 4.
         C.silent("21: inch 4", () -> noted(0, 12, 1, 0, 21), r -> r.next(0), 4);
         // WORN, FOUNDLING of one letter with WEAR 3: nothing is read at any inch; with WEAR 2 inch 1 tells them.
@@ -679,8 +717,8 @@ public final class EdgesTest {
         C.silent("22: FOUNDLING at an odd inch", () -> noted(4, 1, 7, 0, 0), r -> r.names(0, 0), 340);
         C.silent("22: FOUNDLING at an odd inch with letters", () -> noted(4, 1, 7, 0, 1), r -> r.names(0, 0), 0);
         C.silent("22: WORN, two of WEAR", () -> noted(1, 1, 0, 2, 4444), r -> r.names(0, 1), 4444);
-        C.silent("22: WORN, three of WEAR, four letters are left", () -> noted(1, 1, 0, 3, 4444), r -> r.names(0, 0), 0);
-        C.silent("22: WORN, three of WEAR, three letters are left", () -> noted(1, 1, 0, 3, 444), r -> r.names(0, 0), 4);
+        C.silent("22: WORN, three of WEAR, four are left", () -> noted(1, 1, 0, 3, 4444), r -> r.names(0, 0), 0);
+        C.silent("22: WORN, three of WEAR, three are left", () -> noted(1, 1, 0, 3, 444), r -> r.names(0, 0), 4);
         C.silent("22: WORN, the least of these", () -> noted(1, 1, 0, 3, 444), r -> r.names(0, 1), 4441);
         // 4, 44, 444, 4444 run together.
         C.silent("22: WEAR 5", () -> noted(0, 1, 0, 5, 4), r -> r.names(0, 0), 4);
@@ -776,6 +814,9 @@ public final class EdgesTest {
         C.silent("26: what is left over", Checks::full, r -> r.years(999999, 3), 4);
         // Seed 518020: X is 2147482477, the greatest of all first ones: stick 1 at inch 4.
         C.silent("26: the greatest X", Checks::small, r -> r.years(518020, 1), 3);
+        // Seed 959: X is 1709177484, 1396 less than 1630 times 1048576: stick 3 at inch 0, not yet at inch 1.
+        C.silent("26: by 1048576 (cut)", town(4, 1, 1, 0, 4, 1, 1, 0, 4, 1, 1, 0, 4, 1234, 1, 0), r -> r.years(959, 1),
+            4);
         // In its first two years seed 0 sucks stick 0: from WEAR 8 to 9, and no further.
         C.silent("26: sucked to 9", town(1, 12341, 1, 7), r -> r.years(0, 2), 5);
         C.silent("26: sucked from 8", town(1, 12341, 1, 8), r -> r.years(0, 2), 4);
@@ -849,6 +890,16 @@ public final class EdgesTest {
         C.due("29: the image was not undone", r.count(4) * 100 + r.count(2), 624);
         r.from(0);
         C.due("29: none may be", r.undo(), NO);
+        for (int k = 0; k < 5; k++) {
+            r.lays(0, 1);
+        }
+        C.due("29: others may be", r.count(4), 5);
+        r.from(1);
+        int[] wears = {21, 15, 10, 6, 3, 1};
+        for (int k = 0; k < 6; k++) {
+            C.due("29: what is undone is the image's own, " + k, r.undo() * 100 + r.count(2), 600 + wears[k]);
+        }
+        r.from(0);
         C.due("29: the text stays", r.count(5), 150);
         C.due("29: the fraction stays", r.part(0) * 100 + r.part(1), 2710);
         C.due("29: STATUS stays", r.status(0) * 100 + r.status(1) * 10 + r.status(2), 122);

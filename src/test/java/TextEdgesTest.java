@@ -243,6 +243,27 @@ public final class TextEdgesTest {
         fault(TOWN + "stick" + " ".repeat(140), 150);
     }
 
+    /** What an earlier text had behind the place where this one ends does not tell. */
+    private static void endsOfShorterTexts() {
+        String[] shorter = {"", "town", "town;stick", "town;stick 0", "town;stick 0 1", "town;stick 0 1 1",
+            "town;stick 0 1 1;suck", "town;stick 0 1 1;suck 0", "town;stick 0 1 1;suck 0 1"};
+        for (String text : shorter) {
+            RockName r = of(TOWN + STICK + "suck 0 1;").get();
+            C.due("the longer one", r.read(), 3);
+            r.clear();
+            Checks.type(r, text);
+            C.due("behind a longer one '" + text + "'", r.read(), -10 - text.length());
+            C.due("what was read stays", r.count(2), 1);
+        }
+        RockName r = of(TOWN + STICK + STICK).get();
+        r.read();
+        r.clear();
+        Checks.type(r, TOWN);
+        C.due("no sticks of an earlier text", r.read() * 10 + r.count(0), 10);
+        Checks.type(r, "suck 0 1;");
+        C.due("no stick of an earlier text", r.read(), -20);
+    }
+
     private static void aFullText() {
         stands(TOWN + " ".repeat(145), 1);
         stands(" ".repeat(144) + TOWN, 1);
@@ -324,6 +345,7 @@ public final class TextEdgesTest {
         stops();
         bytes();
         ends();
+        endsOfShorterTexts();
         aFullText();
         whatATownTells();
         whatATownLeaves();
