@@ -946,6 +946,27 @@ public final class EdgesTest {
         C.silent("31: the most wear", most, r -> r.count(2), 54);
     }
 
+    /** An object is used for 512 calls at most: the last of these is as told. */
+    private static void longRuns() {
+        RockName sucked = of(0, 12, 9, 0);
+        for (int call = 2; call < 512; call += 2) {
+            sucked.suck(0, 9);
+            sucked.undo();
+        }
+        C.due("the 512th call: wear", sucked.of(0, 3), 0);
+        RockName refused = new RockName();
+        for (int call = 1; call < 512; call++) {
+            refused.lays(0, 0);
+        }
+        C.due("the 512th call: BAD", refused.status(0), 511);
+        RockName kept = of(0, 12, 9, 1);
+        for (int call = 3; call < 512; call += 2) {
+            kept.image(call / 2 % 2);
+            kept.from(call / 2 % 2);
+        }
+        C.due("the 512th call: that may be undone", kept.count(4), 1);
+    }
+
     private static long hash(long... values) {
         long h = 1447;
         for (long v : values) {
@@ -996,6 +1017,7 @@ public final class EdgesTest {
         status();
         count();
         digest();
+        longRuns();
         C.end("all edges are as told");
     }
 }
